@@ -728,6 +728,7 @@ public final class ModelTest {
             call(4, r, by.pick(0, 5), 2 * by.random.nextInt(13), by.side());
             call(4, r, by.pick(0, 24), by.pick(0, 24), by.side());
             call(4, r, 0, Math.max(0, Math.min(n, 24)) / 2 * 2, by.side());
+            askStars();
         }
 
         void sight() {
@@ -746,13 +747,23 @@ public final class ModelTest {
             return by.random.nextInt(3) > 0 ? 0 : by.pick(0, 5);
         }
 
+        /** Begins anywhere, so that each ask is at times the first one behind a change. */
         void askStars() {
-            call(7, by.pick(0, 9), by.pick(0, 9), by.pick(0, 9), by.pick(0, 3), by.side());
-            call(8, by.pick(0, 9), by.pick(0, 11));
-            call(9, by.pick(0, 9));
-            call(10);
-            call(11, by.pick(0, 2));
-            call(12, by.pick(0, 199), by.pick(0, 199), by.side(), by.side());
+            int first = by.random.nextInt(6);
+            for (int k = 0; k < 6; k++) {
+                askOfStars((first + k) % 6);
+            }
+        }
+
+        void askOfStars(int which) {
+            switch (which) {
+                case 0: call(7, by.pick(0, 9), by.pick(0, 9), by.pick(0, 9), by.pick(0, 3), by.side()); break;
+                case 1: call(8, by.pick(0, 9), by.pick(0, 11)); break;
+                case 2: call(9, by.pick(0, 9)); break;
+                case 3: call(10); break;
+                case 4: call(11, by.pick(0, 2)); break;
+                default: call(12, by.pick(0, 199), by.pick(0, 199), by.side(), by.side()); break;
+            }
         }
 
         void checkTape() {
@@ -779,7 +790,7 @@ public final class ModelTest {
 
         void step() {
             switch (by.random.nextInt(14)) {
-                case 0: plate(); break;
+                case 0: plate(); askStars(); break;
                 case 1: row(); break;
                 case 2: case 3: sight(); break;
                 case 4: call(16, meteor()); break;

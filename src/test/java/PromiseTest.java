@@ -131,6 +131,11 @@ public final class PromiseTest {
         due(6, "load of what was put", 1, x.load(1, 22, 2, true));
         due(4, "row again", 24, x.row(1, 24));
         due(4, "its places are -1 again", BEYOND, x.load(1, 22, 2, true));
+        x.put(1, 0, 7);
+        x.put(1, 1, 7);
+        x.row(1, 3);
+        x.put(1, 1, 7);
+        due(4, "its first place, too", BEYOND, x.load(1, 0, 2, true));
         due(4, "row is gone", -1, x.row(1, -1));
         due(5, "put of a missing row, whatever the place", NONE, x.put(1, 99, 1));
         x.row(1, 4);
@@ -157,6 +162,9 @@ public final class PromiseTest {
             x.put(0, k, 199 - k);
         }
         due(6, "no spot has gone", 3, x.count(1));
+        due(6, "one place too far", BEYOND, x.load(0, 23, 2, true));
+        due(6, "two places too far", BEYOND, x.load(0, 22, 4, true));
+        due(6, "from below with good places", BEYOND, x.load(0, -1, 4, true));
         due(6, "11 spots", FULL, x.load(0, 0, 22, false));
         due(6, "12 spots", FULL, x.load(0, 0, 24, false));
         due(6, "10 spots", 10, x.load(0, 4, 20, false));
@@ -166,6 +174,10 @@ public final class PromiseTest {
         x.put(0, 23, 200);
         due(6, "beyond comes before full", BEYOND, x.load(0, 0, 24, false));
         due(6, "a place outside isn't asked", 1, x.load(0, 20, 2, false));
+        x.put(0, 4, 200);
+        due(6, "the first place is outside", BEYOND, x.load(0, 4, 2, false));
+        x.put(0, 4, -1);
+        due(6, "the first place is -1", BEYOND, x.load(0, 4, 2, false));
         due(6, "none", 0, x.load(0, 24, 0, false));
         due(6, "spots gone", 0, x.count(1));
         due(6, "stars stand", 12, x.count(0));
@@ -299,6 +311,10 @@ public final class PromiseTest {
         due(9, "two at one point", NONE, x.corner(0, 4, 1, 3, true));
         due(9, "beyond comes first", BEYOND, x.corner(0, 1, 2, 4, true));
         due(9, "TURN is 1", 1, x.corner(0, 2, 3, 3, true));
+        stars(x, 2, 1, 5, 3);
+        // 5 of 05, 13 of 56, 34 of 06; (-5, -3) x (-3, -2) is 1.
+        due(9, "hardly a turn", 1, x.corner(0, 5, 6, 3, true));
+        due(9, "hardly a triangle", 6, x.corner(0, 5, 6, 0, true));
     }
 
     private static void votesAndMatches() {
@@ -408,6 +424,88 @@ public final class PromiseTest {
         due(13, "in a line: table(1)", 1, x.table(1));
         due(13, "in a line: table(2)", 3, x.table(2));
         due(14, "in a line: place", 77, x.place(33, 77, true, false));
+    }
+
+    /** Each ask as the first one behind a change: nothing worked out before may be told. */
+    private static void firstAsks() {
+        due(10, "votes first", 2, plate().votes(3, 4));
+        due(11, "match first", 3, plate().match(2));
+        due(12, "matched first", 4, plate().matched());
+        due(13, "table first", 2, plate().table(2));
+        due(14, "place first", 150, plate().place(75, 75, true, false));
+        FallingLight x = plate();
+        tape(x, 1, 2, 3, 4);
+        due(30, "check first", 0, x.check());
+        x.clear(false);
+        due(14, "place behind clear", NONE, x.place(75, 75, true, false));
+        loadSpots(x, 75, 75, 5, 5, 55, 10, 20, 60);
+        due(14, "place behind load", 150, x.place(75, 75, true, false));
+        loadSpots(x, 5, 5, 75, 75, 20, 60, 55, 10);
+        due(11, "match behind load", 4, x.match(1));
+        loadSpots(x, 55, 10, 5, 5, 75, 75);
+        due(12, "matched behind load", 0, x.matched());
+        x.spot(20, 60);
+        due(12, "matched behind spot", 4, x.matched());
+        x.star(150, 150);
+        due(12, "matched behind star", 3, x.matched());
+        x.clear(true);
+        due(13, "table behind clear", NONE, x.table(0));
+    }
+
+    private static void loadSpots(FallingLight x, int... places) {
+        x.row(0, places.length);
+        for (int k = 0; k < places.length; k++) {
+            x.put(0, k, places[k]);
+        }
+        x.load(0, 0, places.length, false);
+    }
+
+    /** Star 0 is a match like any other, wherever its spot stands in the table. */
+    private static void starNought() {
+        int[][] order = {{5, 5, 55, 10, 20, 60, 75, 75}, {55, 10, 5, 5, 20, 60, 75, 75}, {55, 10, 20, 60, 5, 5, 75, 75}};
+        for (int k = 0; k < 3; k++) {
+            FallingLight x = new FallingLight();
+            stars(x, 10, 10, 110, 20, 40, 120, 150, 150);
+            spots(x, order[k]);
+            due(11, "star 0 is matched", 0, x.match(k));
+            due(12, "all four", 4, x.matched());
+            for (int n = 0; n < 3; n++) {
+                due(13, "table with star 0", n, x.table(n));
+            }
+            due(14, "place with star 0", 10, x.place(5, 5, false, false));
+        }
+        FallingLight y = new FallingLight();
+        stars(y, 10, 10, 110, 20, 40, 120, 150, 150);
+        spots(y, 100, 1, 5, 5, 55, 10, 20, 60, 75, 75);
+        due(11, "spot 0 is strange", NONE, y.match(0));
+        for (int n = 0; n < 3; n++) {
+            due(13, "table without spot 0", n + 1, y.table(n));
+        }
+        due(14, "place without spot 0", 40, y.place(20, 60, false, false));
+    }
+
+    /** All stars and spots there may be, the spots at the first ten stars' places. */
+    private static void fullPlate() {
+        FallingLight x = new FallingLight();
+        int[] at = {3, 17, 190, 8, 44, 151, 121, 96, 77, 33, 9, 188, 163, 171, 58, 92, 139, 29, 101, 141, 28, 60, 180, 111};
+        stars(x, at);
+        for (int k = 0; k < 20; k += 2) {
+            x.spot(at[k], at[k + 1]);
+        }
+        x.near(0);
+        due(12, "all ten", 10, x.matched());
+        for (int k = 0; k < 10; k++) {
+            due(10, "each is in 36 threes", 36, x.votes(k, k));
+            due(11, "each has its own star", k, x.match(k));
+            due(10, "no votes with another", 0, x.votes(k, 11));
+        }
+        due(13, "the last of the table", 2, x.table(2));
+        due(14, "the plate is the sky", 123, x.place(123, 45, false, false));
+        x.clear(false);
+        for (int k = 0; k < 10; k++) {
+            x.spot(0, k);
+        }
+        due(13, "ten in a line", NONE, x.table(0));
     }
 
     private static void stations() {
@@ -555,6 +653,13 @@ public final class PromiseTest {
         x.station(1, 0, 0, 0);
         due(21, "the ray is in the plane", NONE, x.point(3, 0, 1, false, 0, false));
         x.station(0, 0, 0, 9);
+        FallingLight y = new FallingLight();
+        y.station(0, 0, 5, 0);
+        y.station(1, 0, 9, 0);
+        sight(y, 0, 0, 0, 0, 2, 1, 1, 1, 0);
+        sight(y, 0, 0, 1, 1, 0, 0, 0, 0, 1);
+        due(21, "stations apart in y: y", 9, y.point(0, 0, 1, false, 1, false));
+        due(21, "stations apart in y: z", 2, y.point(0, 0, 1, false, 2, false));
         due(21, "behind the station", -18, x.point(3, 0, 1, true, 0, false));
         due(21, "behind the station, y", -9, x.point(3, 0, 1, true, 1, false));
         due(21, "behind the station, z", 0, x.point(3, 0, 1, true, 2, false));
@@ -744,6 +849,8 @@ public final class PromiseTest {
         due(27, "height 44/3", 14, tower(44, 1, 3).drift(0, 0, 1, false, false));
         due(27, "height 44/3 below", 3, tower(44, 1, 3).drift(0, 0, 1, false, true));
         due(27, "height 44/3, y", 368, tower(44, 1, 3).drift(0, 0, 1, true, false));
+        // 200/3: 10 (0 + .. + 5) and 20/3 of layer 6.
+        due(27, "height 200/3", 190, tower(40, 5, 3).drift(0, 0, 1, false, false));
         // 50/4: 5/2 of layer 1.
         due(27, "lowest terms", 5, tower(50, 1, 4).drift(0, 0, 1, false, false));
         due(27, "lowest terms below", 2, tower(50, 1, 4).drift(0, 0, 1, false, true));
@@ -787,6 +894,10 @@ public final class PromiseTest {
         sight(x, 3, 0, 0, 1, 0, 1, 0, 1, 1);
         due(29, "meteor 3 isn't of it", 35, x.shower(0, 5));
         sight(x, 2, 0, 0, 0, 1, 0, 1, 0, 0);
+        FallingLight y = new FallingLight();
+        sight(y, 3, 0, 0, 1, 0, 0, 0, 1, 0);
+        sight(y, 4, 0, 0, 0, 1, 0, 0, 0, 1);
+        due(29, "meteors 3 and 4 alone", 24, y.shower(4, 3));
         due(28, "planes alike", NONE, x.radiant(0, 2, 0));
         due(29, "planes alike, no shower", NONE, x.shower(0, 2));
     }
@@ -866,6 +977,9 @@ public final class PromiseTest {
         corner();
         votesAndMatches();
         table();
+        firstAsks();
+        starNought();
+        fullPlate();
         stations();
         tellAndSight();
         aboutAndAs();
