@@ -17,6 +17,10 @@ abstract class Edges {
     /** The section of the document that stands ahead of the promises. */
     static final int TERMS = 0;
 
+    /** Twelve points whose triangles are all GOOD and no two LIKE by T 0. */
+    static final int[] SCATTERED = {
+        3, 17, 190, 8, 44, 151, 121, 96, 77, 33, 9, 188, 163, 171, 58, 92, 139, 29, 101, 141, 28, 60, 180, 111};
+
     /** The sentences that have a test, by promise. */
     static final Map<Integer, List<String>> TESTED = new TreeMap<>();
 

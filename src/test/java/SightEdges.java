@@ -209,6 +209,12 @@ final class SightEdges extends Edges {
         outside("sight of a meteor with fewer", 0, 1, (y, v) -> y.about(1, v, 1));
         outside("what", 0, 5, (y, v) -> y.about(0, 0, v));
         refused("a meteor without sights", BEYOND, y -> y.about(3, 0, 0), y -> y.about(3, -1, 5));
+        FallingLight y = World.rich();
+        long[] kinds = {0, 0, 2, 1};
+        for (int s = 0; s < 4; s++) {
+            is("the least what, sight " + s, kinds[s], y.about(0, s, 0));
+            is("the station, sight " + s, s, y.about(0, s, 1));
+        }
     }
 
     private static void kinds() {

@@ -9,6 +9,7 @@ final class StarEdges extends Edges {
         rows();
         puts();
         loads();
+        loadsFull();
         loadFindings();
         clears();
         nears();
@@ -79,6 +80,11 @@ final class StarEdges extends Edges {
         is("but isn't missing", 0, x.load(1, 0, 0, true));
         is("the first row again", 24, x.row(0, 24));
         is("all -1 again", BEYOND, x.load(0, 22, 2, true));
+        row(x, 0, 7, 7);
+        x.row(0, 2);
+        x.put(0, 1, 7);
+        is("the first place, too", BEYOND, x.load(0, 0, 2, true));
+        x.row(0, 24);
         is("a row of one", 1, x.row(1, 1));
         is("its only place", 5, x.put(1, 0, 5));
         is("no second place", BEYOND, x.put(1, 1, 5));
@@ -138,6 +144,21 @@ final class StarEdges extends Edges {
         is("from an odd place on", 3, y.load(1, 1, 6, true));
         // (199, 0), (0, 199), (0, 199): two at one point.
         is("by twos from there", NONE, y.corner(0, 1, 2, 0, true));
+        row(y, 0, 5, 50, 10, 20, 60, 75, 7, 3);
+        is("three more in their place", 3, y.load(0, 1, 6, true));
+        // (50, 10), (20, 60), (75, 7): squares 3400 of 01, 634 of 02, 5834 of 12; (55, -53) x (30, -50) is -1160.
+        is("FIRST of those", 1, y.corner(0, 1, 2, 0, true));
+        is("TURN of those", -1, y.corner(0, 1, 2, 3, true));
+        x = World.rich();
+        is("matched before", 4, x.matched());
+        row(x, 1, 75, 75, 5, 5, 55, 10, 20, 60);
+        x.load(1, 0, 6, false);
+        is("matched behind three spots", 0, x.matched());
+        x.load(1, 0, 8, false);
+        is("match behind four spots", 4, x.match(0));
+    }
+
+    private static void loadsFull() {
         sentence(6, "FULL: there would be too many.");
         int[] places = new int[24];
         for (int k = 0; k < 24; k++) {
@@ -183,6 +204,15 @@ final class StarEdges extends Edges {
         refused("no places from there on", BEYOND, x -> x.load(0, -1, 0, false), x -> x.load(0, 11, 0, true));
         refused("one isn't 0 .. 199", BEYOND, x -> x.load(0, 8, 2, false), x -> x.load(0, 7, 2, true),
                 x -> x.load(0, 0, 10, true), x -> x.load(0, 2, 8, false));
+        FallingLight z = new FallingLight();
+        row(z, 0, SCATTERED);
+        is("24 places to their end", 1, z.load(0, 22, 2, true));
+        is("one place behind the end", BEYOND, z.load(0, 23, 2, true));
+        is("two places behind the end", BEYOND, z.load(0, 22, 4, true));
+        is("all and one more", BEYOND, z.load(0, 1, 24, true));
+        is("all and two more", BEYOND, z.load(0, 0, 26, true));
+        is("from one ahead on", BEYOND, z.load(0, -1, 24, true));
+        is("from behind the end on", BEYOND, z.load(0, 24, 2, true));
         FallingLight y = new FallingLight();
         row(y, 0, 0, 199, 200, 0, 0, 200, -1, 0, 0, -1, 0, 0);
         is("0 and 199", 1, y.load(0, 0, 2, true));

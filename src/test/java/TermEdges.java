@@ -171,7 +171,7 @@ final class TermEdges extends Edges {
     }
 
     private static void fractionsOfSights() {
-        int[][] towers = {{1, 1, -3, -1, 3}, {-1, 1, -3, 1, 3}, {1, -1, -3, 1, 3}, {0, 5, -3, 0, 1}, {6, 2, 8, 3, 2}, {6, 2, -4, -3, 1}};
+        int[][] towers = {{1, 1, -3, -1, 3}, {-1, 1, -3, 1, 3}, {1, -1, -3, 1, 3}, {0, 5, -3, 0, 1}, {6, 2, 8, 3, 2}, {6, 2, -4, -3, 1}, {5, 1, -1, -5, 1}};
         for (int[] t : towers) {
             FallingLight x = SightEdges.tower(t[0], t[1], t[2]);
             isFraction("point", t[3], t[4], x.point(0, 0, 1, true, 2, false), x.point(0, 0, 1, true, 2, true));
@@ -184,6 +184,8 @@ final class TermEdges extends Edges {
         isFraction("angle", 2, 11, x.angle(0, 0, 1, false), x.angle(0, 0, 1, true));
         isFraction("land by 0, 1", -7, 11, x.land(0, 0, 1, false, false), x.land(0, 0, 1, false, true));
         isFraction("land by 1, 0", -7, 11, x.land(0, 1, 0, false, false), x.land(0, 1, 0, false, true));
+        isFraction("land by 0, 1, y", -28, 11, x.land(0, 0, 1, true, false), x.land(0, 0, 1, true, true));
+        isFraction("land by 1, 0, y", -28, 11, x.land(0, 1, 0, true, false), x.land(0, 1, 0, true, true));
         x.station(1, 0, 0, 0);
         isFraction("land at 0", 0, 1, x.land(0, 0, 1, false, false), x.land(0, 0, 1, false, true));
         isFraction("land at 0 by 1, 0", 0, 1, x.land(0, 1, 0, true, false), x.land(0, 1, 0, true, true));
@@ -215,7 +217,10 @@ final class TermEdges extends Edges {
         is("the two shorter ones alike (34, 34, 100)", NONE, y.corner(0, 1, 3, 0, true));
         is("the two longer ones alike (80, 100, 100)", NONE, y.corner(0, 1, 2, 0, true));
         is("in a line and two alike (100, 100, 400)", NONE, y.corner(0, 1, 4, 0, true));
-        is("none alike (65, 85, 100)", 1, y.corner(0, 1, 5, 0, true));
+        is("none alike (65, 85, 100): FIRST", 1, y.corner(0, 1, 5, 0, true));
+        is("SECOND", 0, y.corner(0, 1, 5, 1, true));
+        is("THIRD", 5, y.corner(0, 1, 5, 2, true));
+        is("TURN", -1, y.corner(0, 1, 5, 3, true));
         stars(y, 30, 30, 33, 31, 39, 33);
         is("in a line with unlike sides", NONE, y.corner(6, 7, 8, 0, true));
     }
@@ -251,6 +256,10 @@ final class TermEdges extends Edges {
         likeFrom("a alone is off", 10, new int[] {0, 0, 20, 0, 2, 1}, new int[] {0, 0, 20, 0, 3, 6});
         // 5, 365, 400 and 5, 325, 400.
         likeFrom("b alone is off", 10, new int[] {0, 0, 20, 0, 1, 2}, new int[] {0, 0, 20, 0, 2, 1});
+        // 281, 1481, 1600 and 314, 2314, 2500: 20010000 and 10000 by 4000000, so 5.0025.
+        likeFrom("a is hardly off", 6, new int[] {0, 0, 40, 0, 5, 16}, new int[] {0, 0, 50, 0, 5, 17});
+        // 185, 905, 1600 and 289, 1289, 2500: 10000 and 20010000 by 4000000.
+        likeFrom("b is hardly off", 6, new int[] {0, 0, 40, 0, 11, 8}, new int[] {0, 0, 50, 0, 15, 8});
         // 37970, 38025, 38165 and 1, 81, 82: 307537500 by 3129530 is 98.3.
         likeFrom("T 99", 99, new int[] {0, 0, 195, 0, 98, 169}, new int[] {0, 0, 9, 0, 9, 1});
         // .. and 1, 225, 226: 854305500 by 8625290 is 99.05.
@@ -291,6 +300,20 @@ final class TermEdges extends Edges {
         return sum;
     }
 
+    /** STAR 0 is a MATCH like any other, at each place of the table. */
+    private static void starNought() {
+        int[][] orders = {{5, 5, 55, 10, 20, 60, 75, 75}, {55, 10, 5, 5, 20, 60, 75, 75}, {55, 10, 20, 60, 5, 5, 75, 75}};
+        for (int[] order : orders) {
+            FallingLight x = new FallingLight();
+            stars(x, 10, 10, 110, 20, 40, 120, 150, 150);
+            spots(x, order);
+            for (int k = 0; k < 3; k++) {
+                is("table(" + k + ") with star 0", k, x.table(k));
+            }
+            is("place with star 0", 10, x.place(5, 5, true, false));
+        }
+    }
+
     private static void votes() {
         sentence(TERMS, "the pairs of LIKE TRIANGLES, of SPOTS and of STARS, in which they are the same CORNER.");
         FallingLight x = new FallingLight();
@@ -312,6 +335,22 @@ final class TermEdges extends Edges {
         y.clear(true);
         stars(y, 5, 15, 15, 10);
         is("two stars, no triangle", 0, allVotes(y));
+        fullVotes(0);
+        fullVotes(2);
+    }
+
+    /** 12 stars make 220 triangles, all GOOD; 10 spots at the places of as many of them make 120. */
+    private static void fullVotes(int first) {
+        FallingLight x = new FallingLight();
+        stars(x, SCATTERED);
+        for (int k = first; k < first + 10; k++) {
+            x.spot(SCATTERED[2 * k], SCATTERED[2 * k + 1]);
+        }
+        x.near(0);
+        for (int k = 0; k < 10; k++) {
+            is("each spot is in 36 triangles", 36, x.votes(k, k + first));
+            is("and has no votes with the next star", 0, x.votes(k, (k + first + 1) % 12));
+        }
     }
 
     private static void match() {
@@ -376,5 +415,6 @@ final class TermEdges extends Edges {
         is("the last has one", 3, z.table(2));
         is("it takes a spot to its star", 35, z.place(10, 0, false, false));
         is("and another", 5, z.place(15, 35, true, false));
+        starNought();
     }
 }

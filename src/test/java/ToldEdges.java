@@ -82,10 +82,9 @@ final class ToldEdges extends Edges {
     /** Spots at the places of the first stars. */
     private static FallingLight matchedAll(int spots) {
         FallingLight x = new FallingLight();
-        int[] at = {3, 17, 190, 8, 44, 151, 121, 96, 77, 33, 9, 188, 163, 171, 58, 92, 139, 29, 101, 141, 28, 60, 180, 111};
-        stars(x, at);
+        stars(x, SCATTERED);
         for (int k = 0; k < spots; k++) {
-            x.spot(at[2 * k], at[2 * k + 1]);
+            x.spot(SCATTERED[2 * k], SCATTERED[2 * k + 1]);
         }
         x.near(0);
         return x;

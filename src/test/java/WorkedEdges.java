@@ -59,6 +59,16 @@ final class WorkedEdges extends Edges {
         FallingLight x = SightEdges.tower(-30, 1, 3);
         isFraction("behind the station, x", -30, 1, x.point(0, 0, 1, true, 0, false), x.point(0, 0, 1, true, 0, true));
         isFraction("behind the station, z", -10, 1, x.point(0, 0, 1, true, 2, false), x.point(0, 0, 1, true, 2, true));
+        FallingLight z = new FallingLight();
+        z.station(0, 5, 7, 9);
+        z.station(1, 0, 0, 3);
+        sight(z, 0, 0, 0, 1, 2, 3, 3, -1, -3);
+        sight(z, 0, 0, 1, 1, 0, 0, 0, 1, 0);
+        long[][] due = {{3, 3, 3}, {11, 5, 3}};
+        for (int axis = 0; axis < 3; axis++) {
+            is("down from above, BEGIN " + axis, due[0][axis], z.point(0, 0, 1, false, axis, false));
+            is("down from above, END " + axis, due[1][axis], z.point(0, 0, 1, true, axis, false));
+        }
         x.station(1, 0, 0, 0);
         isFraction("at the station", 0, 1, x.point(0, 0, 1, true, 2, false), x.point(0, 0, 1, true, 2, true));
         sentence(TERMS, "(A BLURRED s has neither.)");
@@ -404,5 +414,9 @@ final class WorkedEdges extends Edges {
         is("one more that is off", 55, y.shower(5, 0));
         sight(y, 0, 2, 0, 0, 1, 0, 0, 0, 1);
         is("even of the two themselves", 54, y.shower(5, 0));
+        y.drop(4);
+        sight(y, 4, 0, 0, 0, 1, 0, 0, 0, 1);
+        sight(y, 4, 0, 0, 1, 0, 0, 0, 1, 0);
+        is("the first is off, the last isn't", 38, y.shower(5, 1));
     }
 }
