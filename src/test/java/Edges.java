@@ -4,7 +4,7 @@ import java.util.Map;
 import java.util.TreeMap;
 import java.util.function.Supplier;
 
-/** What the tests of boundary cases share: each answer is asked under a sentence of the document. */
+/** What the tests of the document's sentences share: each answer is asked under one of them. */
 abstract class Edges {
     static final long LOW = -1000000000000000000L;
     static final long BEYOND = LOW - 1;
@@ -45,7 +45,10 @@ abstract class Edges {
         endSentence();
         promise = ofPromise;
         words = ofDocument;
-        TESTED.computeIfAbsent(promise, k -> new ArrayList<>()).add(words);
+        List<String> ofPromiseTested = TESTED.computeIfAbsent(promise, k -> new ArrayList<>());
+        if (!ofPromiseTested.contains(words)) {
+            ofPromiseTested.add(words);
+        }
     }
 
     /** A sentence under which nothing was asked has no test. */

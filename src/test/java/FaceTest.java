@@ -9,41 +9,13 @@ import java.util.TreeSet;
 import java.util.regex.Matcher;
 import java.util.regex.Pattern;
 
-/** The public face is the document's, and the source keeps to the rules that can be seen from words. */
+/** The public face is the document's, act by act and group by group. */
 public final class FaceTest {
-    private static final String[] FACE = {
-        "long star(int,int)",
-        "long spot(int,int)",
-        "long row(int,int)",
-        "long put(int,int,int)",
-        "long load(int,int,int,boolean)",
-        "long clear(boolean)",
-        "long near(int)",
-        "long corner(int,int,int,int,boolean)",
-        "long votes(int,int)",
-        "long match(int)",
-        "long matched()",
-        "long table(int)",
-        "long place(int,int,boolean,boolean)",
-        "long station(int,int,int,int)",
-        "long tell(int)",
-        "long sight(int,int,int)",
-        "long drop(int)",
-        "long about(int,int,int)",
-        "long as(int,int,int)",
-        "long point(int,int,int,boolean,int,boolean)",
-        "long fall(int,int,int,int)",
-        "long angle(int,int,int,boolean)",
-        "long best(int)",
-        "long land(int,int,int,boolean,boolean)",
-        "long wind(int,int,int)",
-        "long drift(int,int,int,boolean,boolean)",
-        "long radiant(int,int,int)",
-        "long shower(int,int)",
-        "long check()",
-        "long count(int)",
-        "long found(int)",
-    };
+    private static final Path DOCUMENT = Path.of("../shared/DOC.md");
+    private static final Path SOURCE = Path.of("src/main/java/FallingLight.java");
+
+    /** The acts' forms, by the document's public face. */
+    private static final Set<String> FACE = new TreeSet<>();
 
     private static int wrong = 0;
 
@@ -62,8 +34,32 @@ public final class FaceTest {
         return text.append(")").toString();
     }
 
+    /** The form of an act as the document writes it, without its parameters' names. */
+    private static String form(String written) {
+        return written.replaceAll("(int|boolean) \\w+", "$1").replace(", ", ",");
+    }
+
+    private static void readFace() throws Exception {
+        String text = Files.readString(DOCUMENT);
+        Matcher m = Pattern.compile("public (long \\w+\\([^)]*\\));").matcher(text);
+        while (m.find()) {
+            FACE.add(form(m.group(1)));
+        }
+        Set<String> promised = new TreeSet<>();
+        m = Pattern.compile("## Promise \\d+: (\\w+)\\s+`(long (\\w+)\\([^)]*\\))`:").matcher(text);
+        while (m.find()) {
+            promised.add(form(m.group(2)));
+            if (!m.group(1).equals(m.group(3))) {
+                fault("the promise of " + m.group(1) + " tells of " + m.group(3));
+            }
+        }
+        if (FACE.size() != 31 || !FACE.equals(promised)) {
+            fault("the document's face and its promises aren't alike: " + FACE + promised);
+        }
+    }
+
     private static void lookAtMethods() {
-        Set<String> due = new TreeSet<>(Set.of(FACE));
+        Set<String> due = new TreeSet<>(FACE);
         Set<String> names = new TreeSet<>();
         for (String face : FACE) {
             names.add(face.substring(5, face.indexOf('(')));
@@ -108,24 +104,34 @@ public final class FaceTest {
                 fault("a class inside isn't static and hidden: " + inside.getName());
             }
         }
-        if (c.getDeclaredClasses().length > 11) {
-            fault("more than twelve classes");
-        }
     }
 
-    private static void lookAtSource() throws Exception {
-        String source = Files.readString(Path.of("src/main/java/FallingLight.java"));
-        String code = source.replaceAll("(?s)/\\*.*?\\*/", " ").replaceAll("//[^\n]*", " ");
-        Matcher m = Pattern.compile("\\b(throw|throws|try|catch|synchronized|assert|package|import|->|\\w+Exact)\\b|::|->").matcher(code);
+    /** The source tells the groups of acts as the document does, each ahead of its own. */
+    private static void lookAtGroups() throws Exception {
+        StringBuilder due = new StringBuilder();
+        Matcher m = Pattern.compile("Ahead of the calls ([a-z`, ]*) the interface says: ---- ([a-z ]*)\\.")
+                .matcher(Files.readString(DOCUMENT));
         while (m.find()) {
-            fault("a word that the rules leave out: " + m.group());
+            due.append(m.group(2)).append(": ").append(m.group(1).replace("`", "")).append('\n');
+        }
+        StringBuilder got = new StringBuilder();
+        m = Pattern.compile("// ---- ([a-z ]*)|public long (\\w+)\\(").matcher(Files.readString(SOURCE));
+        String between = "";
+        while (m.find()) {
+            boolean group = m.group(1) != null;
+            got.append(group ? (got.length() == 0 ? "" : "\n") + m.group(1) + ": " : between + m.group(2));
+            between = group ? "" : ", ";
+        }
+        if (due.length() == 0 || !due.toString().equals(got.append('\n').toString())) {
+            fault("the groups of acts aren't the document's:\n" + got);
         }
     }
 
     public static void main(String[] args) throws Exception {
+        readFace();
         lookAtMethods();
         lookAtRest();
-        lookAtSource();
+        lookAtGroups();
         System.out.println(wrong == 0 ? "the face is as due" : wrong + " faults of the face");
         if (wrong != 0) {
             System.exit(1);

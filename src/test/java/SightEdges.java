@@ -184,7 +184,7 @@ final class SightEdges extends Edges {
     }
 
     private static void abouts() {
-        sentence(19, "2 .. 4 its PLANE's way (NONE if it has none)");
+        sentence(19, "2 .. 4 its PLANE's way (NONE if it has none),");
         refused("no PLANE", NONE, x -> x.about(0, 3, 2), x -> x.about(0, 3, 3), x -> x.about(0, 3, 4),
                 x -> x.about(1, 1, 2), x -> x.about(2, 0, 4));
         FallingLight x = new FallingLight();

@@ -67,7 +67,7 @@ final class StarEdges extends Edges {
     }
 
     private static void rows() {
-        sentence(4, "row r (0, 1) has n places, all -1;");
+        sentence(4, "Rows of shorts come: row r (0, 1) has n places, all -1;");
         FallingLight x = new FallingLight();
         is("the longest row", 24, x.row(0, 24));
         is("the other row is still missing", NONE, x.put(1, 0, 1));

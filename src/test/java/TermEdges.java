@@ -50,7 +50,8 @@ final class TermEdges extends Edges {
     }
 
     private static void findings() {
-        sentence(TERMS, "LOW is -1000000000000000000; LOW - 1 BEYOND, LOW - 2 NONE, LOW - 3 KIND, LOW - 4 FULL, LOW - 5 SIZE.");
+        sentence(TERMS, "FINDINGS are answers below -10 to the 18: LOW is -1000000000000000000;"
+                + " LOW - 1 BEYOND, LOW - 2 NONE, LOW - 3 KIND, LOW - 4 FULL, LOW - 5 SIZE.");
         is("BEYOND", -1000000000000000001L, World.rich().star(200, 0));
         is("NONE", -1000000000000000002L, World.rich().drop(3));
         is("KIND", -1000000000000000003L, World.rich().as(0, 0, 2));
@@ -154,7 +155,8 @@ final class TermEdges extends Edges {
 
     /** X is (u - 10) / 3, Y is (v - 10) / 3; the spots are told in turns of both signs. */
     private static void fractionsOfPlace() {
-        sentence(TERMS, "in lowest terms, the lower one above 0; of 0: 0 and 1.");
+        sentence(TERMS, "A FRACTION is told by its number above (below false) or below the line (below true),"
+                + " in lowest terms, the lower one above 0; of 0: 0 and 1.");
         int[][] orders = {{10, 10, 160, 25, 55, 175, 190, 190}, {160, 25, 10, 10, 55, 175, 190, 190}};
         for (int[] order : orders) {
             FallingLight x = new FallingLight();
@@ -226,7 +228,8 @@ final class TermEdges extends Edges {
     }
 
     private static void turns() {
-        sentence(TERMS, "is above 0, else -1.");
+        sentence(TERMS, "its TURN is 1 if (SECOND - FIRST) x (THIRD - FIRST), the first one's x by the second one's y"
+                + " less its y by the second one's x, is above 0, else -1.");
         FallingLight x = new FallingLight();
         // Squares 100 of 01, 25 of 02, 65 of 12: FIRST 1, SECOND 0, THIRD 2.
         stars(x, 100, 100, 110, 100, 103, 104, 103, 96);
@@ -247,7 +250,8 @@ final class TermEdges extends Edges {
     }
 
     private static void like() {
-        sentence(TERMS, "times 100 is not above T c C, and |b C - B c| times 100 isn't either.");
+        sentence(TERMS, "and for the squares a < b < c of one and A < B < C of the other |a C - A c| times 100"
+                + " is not above T c C, and |b C - B c| times 100 isn't either.");
         // 13, 793, 900 and 58, 778, 900: 4050000 and 1350000 by 810000.
         likeFrom("a is just near enough", 5, new int[] {0, 0, 30, 0, 2, 3}, new int[] {0, 0, 30, 0, 3, 7});
         // 5, 845, 900 and 20, 800, 900: 1350000 and 4050000 by 810000.
@@ -265,7 +269,7 @@ final class TermEdges extends Edges {
         // .. and 1, 225, 226: 854305500 by 8625290 is 99.05.
         likeFrom("never", 100, new int[] {0, 0, 195, 0, 98, 169}, new int[] {0, 0, 15, 0, 15, 1});
         likeFrom("exactly alike", 0, new int[] {0, 0, 20, 0, 0, 10}, new int[] {50, 50, 60, 60, 45, 55});
-        sentence(TERMS, "if their TURNS are alike");
+        sentence(TERMS, "Two GOOD ones are LIKE, by T (0 .. 99; 5 at first), if their TURNS are alike,");
         FallingLight x = new FallingLight();
         spots(x, 0, 0, 30, 0, 2, 3);
         stars(x, 0, 100, 30, 100, 2, 97);
@@ -315,7 +319,8 @@ final class TermEdges extends Edges {
     }
 
     private static void votes() {
-        sentence(TERMS, "the pairs of LIKE TRIANGLES, of SPOTS and of STARS, in which they are the same CORNER.");
+        sentence(TERMS, "VOTES of a SPOT and a STAR: the pairs of LIKE TRIANGLES, of SPOTS and of STARS,"
+                + " in which they are the same CORNER.");
         FallingLight x = new FallingLight();
         spots(x, 5, 15, 15, 10, 25, 20);
         stars(x, 20, 0, 25, 20, 5, 0, 15, 5);
@@ -354,7 +359,8 @@ final class TermEdges extends Edges {
     }
 
     private static void match() {
-        sentence(TERMS, "(2 at least, and more than with any other), if that STAR has more VOTES with it than with any other SPOT.");
+        sentence(TERMS, "MATCH of a SPOT: the STAR with which it has the most VOTES (2 at least, and more than with any other),"
+                + " if that STAR has more VOTES with it than with any other SPOT.");
         FallingLight x = new FallingLight();
         spots(x, 5, 15, 15, 10, 25, 20);
         stars(x, 20, 0, 25, 20, 5, 0, 15, 5);
@@ -393,7 +399,8 @@ final class TermEdges extends Edges {
     }
 
     private static void table() {
-        sentence(TERMS, "of the SPOTS that have a MATCH, the first three by numbers (of all threes, in order: the first that aren't in a line)");
+        sentence(TERMS, "THE TABLE: of the SPOTS that have a MATCH, the first three by numbers"
+                + " (of all threes, in order: the first that aren't in a line):");
         FallingLight x = matchedInLine();
         is("four in a line: no table", NONE, x.table(0));
         x.clear(false);

@@ -11,7 +11,7 @@ final class ToldEdges extends Edges {
     }
 
     private static void checks() {
-        sentence(30, "(it is empty then)");
+        sentence(30, "The tape's numbers (it is empty then) are MATCHES of SPOTS 0, 1, .. in turn (-1: none):");
         FallingLight x = World.rich();
         is("as due", 0, x.check());
         is("empty behind it", 0, x.count(2));

@@ -126,7 +126,7 @@ final class WorkedEdges extends Edges {
         // (-8, 10, -4) x (-7, -14, 0).
         is("s may be BLURRED", 182, World.rich().fall(0, 2, 1, 2));
         is("t may be BLURRED", -182, World.rich().fall(0, 1, 2, 2));
-        sentence(TERMS, "PLANE of s x PLANE of t; there is none if that is (0, 0, 0).");
+        sentence(TERMS, "THE FALL of s and t, both with PLANES: PLANE of s x PLANE of t; there is none if that is (0, 0, 0).");
         FallingLight x = new FallingLight();
         sight(x, 0, 0, 0, 1, 0, 0, 0, 1, 0);
         sight(x, 0, 0, 1, 0, 9, 0, 9, 0, 0);
@@ -160,7 +160,8 @@ final class WorkedEdges extends Edges {
     }
 
     private static void bestPair() {
-        sentence(TERMS, "of the least ANGLE, of several the least s, then t; only such with a FALL and a BEGIN point.");
+        sentence(TERMS, "BEST PAIR of a METEOR: s (not BLURRED) and t, both with PLANES, of the least ANGLE,"
+                + " of several the least s, then t; only such with a FALL and a BEGIN point.");
         FallingLight x = new FallingLight();
         // PLANES along z, x, y; BEGIN of 0 is in the PLANE of 1, that of 1 in that of 2, that of 2 in that of 0.
         sight(x, 0, 0, 0, 0, 1, 0, 1, 0, 0);
@@ -263,7 +264,8 @@ final class WorkedEdges extends Edges {
     }
 
     private static void layers() {
-        sentence(TERMS, "Layers of WIND 0 .. 9, layer k from height 10 k to 10 (k + 1)");
+        sentence(TERMS, "Layers of WIND 0 .. 9, layer k from height 10 k to 10 (k + 1):"
+                + " a drift (x, y; each -9 .. 9) for each unit of height.");
         for (int k = 0; k < 10; k++) {
             FallingLight x = high(10 * k);
             x.wind(k, 9, -9);
@@ -351,7 +353,8 @@ final class WorkedEdges extends Edges {
         is("901/9 is found", 1, x.found(5));
         refusedIn(() -> SightEdges.tower(-1, 1, 9), "below 0", SIZE, w -> w.drift(0, 0, 1, false, false),
                 w -> w.drift(0, 0, 1, true, true));
-        sentence(TERMS, "DRIFT from a height h (0 .. 100, a fraction)");
+        sentence(TERMS, "DRIFT from a height h (0 .. 100, a fraction):"
+                + " the sum over layers of the drift times how much of the layer is below h.");
         FallingLight y = SightEdges.tower(99, 4, 7);
         y.station(0, -60, 0, 9);
         for (int k = 0; k < 10; k++) {
@@ -378,7 +381,7 @@ final class WorkedEdges extends Edges {
         is("0 in one of three isn't none", 0, x.radiant(1, 4, 2));
         is("x of those", -1, x.radiant(1, 4, 0));
         is("y of those", 6, x.radiant(1, 4, 1));
-        sentence(TERMS, "the way PLANE x PLANE of their first SIGHTS with PLANES.");
+        sentence(TERMS, "A RADIANT of two METEORS: the way PLANE x PLANE of their first SIGHTS with PLANES.");
         FallingLight y = new FallingLight();
         sight(y, 0, 2, 0, 1, 1, 1, 1, 1, 1);
         sight(y, 0, 0, 0, 1, 2, 3, 1, 2, 3);
@@ -400,7 +403,8 @@ final class WorkedEdges extends Edges {
         refused("no SIGHT with a PLANE", NONE, x -> x.shower(0, 2), x -> x.shower(2, 0), x -> x.shower(2, 3));
         refused("no SIGHT", NONE, x -> x.shower(0, 3), x -> x.shower(3, 0));
         refused("(0, 0, 0)", NONE, x -> x.shower(4, 5), x -> x.shower(5, 4));
-        sentence(TERMS, "all METEORS of which each SIGHT with a PLANE (one at least) has a scalar product 0 of its PLANE's way with that RADIANT.");
+        sentence(TERMS, "SHOWER of two METEORS: all METEORS of which each SIGHT with a PLANE (one at least)"
+                + " has a scalar product 0 of its PLANE's way with that RADIANT.");
         FallingLight x = World.rich();
         is("1, 4 and 5; 2 and 3 have no PLANE", 2 + 16 + 32, x.shower(1, 4));
         FallingLight y = new FallingLight();
